@@ -1,0 +1,48 @@
+/** Compares answers with those that are due, and ends the test with exit code 1 if one is not. */
+final class Due {
+    private static final int MOST_PRINTED = 40;
+
+    private final String test;
+    private int right;
+    private int wrong;
+
+    Due(String test) {
+        this.test = test;
+    }
+
+    void is(String call, long got, long want) {
+        if (got == want) {
+            right++;
+            return;
+        }
+        wrong++;
+        if (wrong <= MOST_PRINTED) {
+            System.out.println(test + ": " + call + " answered " + got + ", due is " + want);
+        }
+    }
+
+    void isTrue(String what, boolean got) {
+        is(what, got ? 1 : 0, 1);
+    }
+
+    /** Puts the text in place of the one that was. */
+    void typeAnew(GrainLeg leg, String text) {
+        leg.clearText();
+        for (int i = 0; i < text.length(); i++) {
+            is("type " + text.charAt(i), leg.type(text.charAt(i)), i + 1);
+        }
+    }
+
+    /** Types the text and performs it. */
+    void performs(GrainLeg leg, String text, int want) {
+        typeAnew(leg, text);
+        is("perform \"" + text + "\"", leg.perform(), want);
+    }
+
+    void end() {
+        System.out.println(test + ": " + right + " answers as due, " + wrong + " not");
+        if (wrong > 0) {
+            System.exit(1);
+        }
+    }
+}
