@@ -1,13 +1,22 @@
+import java.util.Arrays;
+import java.util.function.IntSupplier;
+
 /** Compares answers with those that are due, and ends the test with exit code 1 if one is not. */
 final class Due {
     private static final int MOST_PRINTED = 40;
 
     private final String test;
+    private String sentence = "";
     private int right;
     private int wrong;
 
     Due(String test) {
         this.test = test;
+    }
+
+    /** Names the sentence of the document by which the next answers are due. */
+    void sentence(String words) {
+        sentence = " (\"" + words + "\")";
     }
 
     void is(String call, long got, long want) {
@@ -17,12 +26,19 @@ final class Due {
         }
         wrong++;
         if (wrong <= MOST_PRINTED) {
-            System.out.println(test + ": " + call + " answered " + got + ", due is " + want);
+            System.out.println(test + ": " + call + " answered " + got + ", due is " + want + sentence);
         }
     }
 
     void isTrue(String what, boolean got) {
         is(what, got ? 1 : 0, 1);
+    }
+
+    /** The call answers so, and all that the leg tells is as it was. */
+    void changesNothing(GrainLeg leg, String call, IntSupplier made, int want) {
+        int[] before = Told.everything(leg);
+        is(call, made.getAsInt(), want);
+        isTrue(call + " changed nothing", Arrays.equals(before, Told.everything(leg)));
     }
 
     /** Puts the text in place of the one that was. */

@@ -37,6 +37,68 @@ final class Legs {
         return leg;
     }
 
+    /** Stands, with so much in its boot; drive, tension and capacity are those of a new leg. */
+    static GrainLeg standing(int boot) {
+        GrainLeg leg = new GrainLeg();
+        fill(leg, boot);
+        return leg;
+    }
+
+    /** Fills the empty boot of a leg that stands. The ticks of it count for the boot's sensor. */
+    static void fill(GrainLeg leg, int boot) {
+        leg.gate(true);
+        feed(leg, 40, boot / 40);
+        feed(leg, boot % 40, boot % 40 > 0 ? 1 : 0);
+        leg.gate(false);
+    }
+
+    private static void feed(GrainLeg leg, int measures, int ticks) {
+        if (ticks > 0) {
+            leg.set(2, measures);
+            leg.run(ticks);
+        }
+    }
+
+    /** Stands, with so much in its boot, and 20 in each of the buckets at 0 to 5; its tension is 200. */
+    static GrainLeg withFullBuckets(int boot) {
+        GrainLeg leg = new GrainLeg();
+        leg.set(0, 1);
+        leg.set(1, 200);
+        leg.set(2, 20);
+        leg.set(3, 20);
+        leg.gate(true);
+        leg.start();
+        leg.run(6);
+        leg.stop();
+        fill(leg, boot);
+        return leg;
+    }
+
+    /** Runs with one cell a tick, no feed and an empty boot; the bucket at 5 has so much, the others nothing. */
+    static GrainLeg withBucketBelowHead(int measures) {
+        GrainLeg leg = standing(measures);
+        leg.set(0, 1);
+        leg.set(3, 20);
+        leg.start();
+        leg.run(6);
+        return leg;
+    }
+
+    /** Stands, and so many ticks have passed, at least 1485. Its text has 15 commands; few calls are made. */
+    static GrainLeg atTick(int ticks) {
+        GrainLeg leg = new GrainLeg();
+        for (char character : "w99,w99,w99,w99,w99,w99,w99,w99,w99,w99,w99,w99,w99,w99,w99".toCharArray()) {
+            leg.type(character);
+        }
+        while (leg.count(14) + 1485 <= ticks) {
+            leg.perform();
+        }
+        while (leg.count(14) < ticks) {
+            leg.run(Math.min(200, ticks - leg.count(14)));
+        }
+        return leg;
+    }
+
     static GrainLeg rubbing() {
         GrainLeg leg = new GrainLeg();
         leg.set(0, 6);

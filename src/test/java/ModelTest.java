@@ -4,7 +4,8 @@ import java.util.function.IntSupplier;
 /** Promises 1 to 22: long runs of calls drawn with fixed seeds, each answer compared with PlainLeg's. */
 public final class ModelTest {
     private static final int RUNS = 1500;
-    private static final int CALLS = 512;
+    /** Nothing is promised of an object behind its 512th call; a step makes up to 30 calls, compareAll() 73. */
+    private static final int CALLS = 512 - 30 - 73;
     private static final String LETTERS = "dtfcagsoxrw";
     private static final String CHARACTERS = "dtfcagsoxrw,,,,-0123456789 G\u00e9\u0100";
 
@@ -33,7 +34,7 @@ public final class ModelTest {
         leg = new GrainLeg();
         plain = new PlainLeg();
         calls = 0;
-        while (calls < CALLS - 70) {
+        while (calls < CALLS) {
             step("run " + seed + " call " + calls + ": ");
         }
         compareAll("run " + seed + " at its end: ");

@@ -195,10 +195,7 @@ public final class RunTest {
     }
 
     private static void tooManyTicks(Due due) {
-        GrainLeg leg = new GrainLeg();
-        for (int i = 0; i < 499; i++) {
-            due.is("run(200)", leg.run(200), 0);
-        }
+        GrainLeg leg = Legs.atTick(99800);
         due.is("run(200) of 199", leg.run(200), GrainLeg.FULL);
         due.is("run(201): BAD_VALUE comes first", leg.run(201), GrainLeg.BAD_VALUE);
         due.is("run(199)", leg.run(199), 0);

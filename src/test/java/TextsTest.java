@@ -186,10 +186,7 @@ public final class TextsTest {
     }
 
     private static void tooManyTicks(Due due) {
-        GrainLeg leg = new GrainLeg();
-        for (int i = 0; i < 499; i++) {
-            due.is("run(200)", leg.run(200), 0);
-        }
+        GrainLeg leg = Legs.atTick(99800);
         due.performs(leg, "w99,w99,w1", 3);
         due.is("perform() again", leg.perform(), GrainLeg.NOT_POSSIBLE);
         due.is("the first w", leg.stopped(0), 0);

@@ -1,3 +1,5 @@
+import java.util.Arrays;
+
 /** All that an object tells of its state, in one row. */
 final class Told {
     private static final int STATES = 15;
@@ -22,6 +24,17 @@ final class Told {
         for (int i = 0; i < 18; i++) {
             row[size++] = leg.trip(i / 3, i % 3);
         }
+        return row;
+    }
+
+    /** The state, and what is no part of one: history, text and latest stop, as far as they are told. */
+    static int[] everything(GrainLeg leg) {
+        int[] state = all(leg);
+        int[] row = Arrays.copyOf(state, state.length + 4);
+        row[state.length] = leg.count(STATES);
+        row[state.length + 1] = leg.count(TEXT);
+        row[state.length + 2] = leg.stopped(0);
+        row[state.length + 3] = leg.stopped(1);
         return row;
     }
 }
