@@ -4,14 +4,31 @@ import java.util.function.IntSupplier;
 /** Compares answers with those that are due, and ends the test with exit code 1 if one is not. */
 final class Due {
     private static final int MOST_PRINTED = 40;
+    private static final long MOST_MILLISECONDS = 300_000;
 
     private final String test;
-    private String sentence = "";
+    private volatile String sentence = "";
     private int right;
     private int wrong;
 
     Due(String test) {
         this.test = test;
+        endInTime();
+    }
+
+    /** A call that fails to end is a failure, too, and not a test that is waited for. */
+    private void endInTime() {
+        Thread guard = new Thread(() -> {
+            try {
+                Thread.sleep(MOST_MILLISECONDS);
+            } catch (InterruptedException e) {
+                return;
+            }
+            System.out.println(test + ": a call does not end" + sentence);
+            Runtime.getRuntime().halt(1);
+        });
+        guard.setDaemon(true);
+        guard.start();
     }
 
     /** Names the sentence of the document by which the next answers are due. */

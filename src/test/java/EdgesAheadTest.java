@@ -123,6 +123,7 @@ public final class EdgesAheadTest {
         due.is("ifTension(60, 1): its own", leg.ifTension(60, 1), 8);
         due.is("the tension", leg.count(21), 60);
         due.is("run(1)", leg.run(1), 8);
+        due.is("ifTension(60, 200): not what was given before", leg.ifTension(60, 200), 0);
     }
 
     private static void ifWhereItStands(Due due) {

@@ -162,6 +162,11 @@ public final class EdgesOfCallsTest {
         due.is("reset() where it runs", leg.reset(), GrainLeg.NONE);
         due.is("stop()", leg.stop(), 0);
         due.is("reset() where it was stopped", leg.reset(), GrainLeg.NONE);
+        GrainLeg warm = Legs.withBoot(40, 6, 0);
+        due.performs(warm, "s,c1,d6,a9,t200,g,w2,s,t0", 9);
+        due.is("warmth", warm.count(10), 68);
+        due.is("boot", warm.count(0), 228);
+        due.is("reset() of one that did not trip, where nothing is so", warm.reset(), GrainLeg.NONE);
         GrainLeg tripped = Legs.trippedForBoot();
         due.is("clean(300)", tripped.clean(300), 0);
         due.is("reset()", tripped.reset(), 1);

@@ -324,9 +324,11 @@ public final class EdgesOfSensorsTest {
         due.is("reset() for the warmth", warmth.reset(), 2);
     }
 
-    private static GrainLeg trippedSoOften(int trips) {
-        GrainLeg leg = Legs.trippedForWarmth();
-        for (int trip = 1; trip < trips; trip++) {
+    /** Each time it runs for three ticks, and takes 18 from a boot of 240 until the warmth trips it. */
+    private static GrainLeg trippedSoOften(Due due, int trips) {
+        GrainLeg leg = Legs.standing(240);
+        due.performs(leg, "d6,t200,c1,a9", 4);
+        for (int trip = 0; trip < trips; trip++) {
             leg.run(60);
             leg.reset();
             leg.start();
@@ -338,14 +340,15 @@ public final class EdgesOfSensorsTest {
     private static void sixTripsAreKept(Due due) {
         due.sentence("Looks back at the latest 6 trips");
         for (int trips = 1; trips <= 8; trips++) {
-            GrainLeg leg = trippedSoOften(trips);
+            GrainLeg leg = trippedSoOften(due, trips);
             due.is("trips", leg.sensor(2, 3), trips);
             for (int back = 0; back <= 8; back++) {
                 boolean isKept = back < Math.min(6, trips);
-                due.is("trip(" + back + ", 0) of " + trips, leg.trip(back, 0),
-                    isKept ? 3 + 63 * (trips - 1 - back) : GrainLeg.NONE);
+                int number = trips - back;
+                due.is("trip(" + back + ", 0) of " + trips, leg.trip(back, 0), isKept ? 6 + 63 * number : GrainLeg.NONE);
                 due.is("trip(" + back + ", 1) of " + trips, leg.trip(back, 1), isKept ? 2 : GrainLeg.NONE);
-                due.is("trip(" + back + ", 2) of " + trips, leg.trip(back, 2), isKept ? 0 : GrainLeg.NONE);
+                due.is("trip(" + back + ", 2) of " + trips, leg.trip(back, 2),
+                    isKept ? 5 + Math.max(0, 70 - 9 * number) : GrainLeg.NONE);
             }
         }
         GrainLeg none = new GrainLeg();

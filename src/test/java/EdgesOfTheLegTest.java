@@ -28,6 +28,7 @@ public final class EdgesOfTheLegTest {
         moreThanTheCapacity(due);
         warmthBeginsBeyondThree(due);
         warmthGrowsThenFalls(due);
+        warmthFallsWhereItRuns(due);
         due.end();
     }
 
@@ -45,17 +46,20 @@ public final class EdgesOfTheLegTest {
     /** Two cells a tick: what comes in fills the first of two buckets, in more than three rounds of the belt. */
     private static void roundTheBelt(Due due) {
         due.sentence("each bucket comes to the next place (from 11 to 0)");
-        GrainLeg leg = new GrainLeg();
-        due.performs(leg, "d2,c20,t200,o,g", 5);
-        int[] fed = new int[23];
-        for (int tick = 3; tick < 23; tick++) {
-            fed[tick] = 1 + tick * 7 % 20;
-            leg.set(2, fed[tick]);
-            leg.run(1);
-            for (int place = 0; place < 12; place++) {
-                boolean isFilled = place == 1 || place == 3 || place == 5;
-                due.is("tick " + (tick - 2) + " bucket(" + place + ")", leg.bucket(place),
-                    isFilled ? fed[tick - place / 2] : 0);
+        for (int cellsAhead = 0; cellsAhead <= 1; cellsAhead++) {
+            GrainLeg leg = new GrainLeg();
+            due.performs(leg, "d" + cellsAhead + ",g,w1,d2,c20,t200,o", 7);
+            int[] fed = new int[23];
+            for (int tick = 3; tick < 23; tick++) {
+                fed[tick] = 1 + tick * 7 % 20;
+                leg.set(2, fed[tick]);
+                leg.run(1);
+                for (int place = 0; place < 12; place++) {
+                    boolean isFilled = place == 1 || place == 3 || place == 5;
+                    due.is("tick " + (tick - 2) + " bucket(" + place + ")", leg.bucket(place),
+                        isFilled ? fed[tick - place / 2] : 0);
+                }
+                due.is("in all buckets", leg.count(1), fed[tick] + fed[tick - 1] + fed[tick - 2]);
             }
         }
     }
@@ -355,6 +359,17 @@ public final class EdgesOfTheLegTest {
             due.is("warmth", leg.count(10), row[0]);
             due.is("run(1)", leg.run(1), 0);
             due.is("warmth behind " + row[0], leg.count(10), row[1]);
+        }
+    }
+
+    private static void warmthFallsWhereItRuns(Due due) {
+        due.sentence("and then falls by 2: also where it runs, and is not beyond 3");
+        for (int alignment = -3; alignment <= 3; alignment++) {
+            GrainLeg leg = Legs.rubbing();
+            due.is("run(2)", leg.run(2), 0);
+            leg.set(4, alignment);
+            due.is("run(1)", leg.run(1), 0);
+            due.is("warmth behind 68 at " + alignment, leg.count(10), 66);
         }
     }
 }

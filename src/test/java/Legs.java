@@ -84,17 +84,17 @@ final class Legs {
         return leg;
     }
 
-    /** Stands, and so many ticks have passed, at least 1485. Its text has 15 commands; few calls are made. */
+    /** Stands, and so many ticks have passed. Its text has 15 commands; few calls are made. */
     static GrainLeg atTick(int ticks) {
         GrainLeg leg = new GrainLeg();
         for (char character : "w99,w99,w99,w99,w99,w99,w99,w99,w99,w99,w99,w99,w99,w99,w99".toCharArray()) {
             leg.type(character);
         }
-        while (leg.count(14) + 1485 <= ticks) {
+        for (int i = 0; i < ticks / 1485; i++) {
             leg.perform();
         }
-        while (leg.count(14) < ticks) {
-            leg.run(Math.min(200, ticks - leg.count(14)));
+        for (int left = ticks % 1485; left > 0; left -= 200) {
+            leg.run(Math.min(200, left));
         }
         return leg;
     }
