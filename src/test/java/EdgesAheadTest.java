@@ -19,6 +19,7 @@ public final class EdgesAheadTest {
         noneWithEachOne(due);
         leastWhereItStands(due);
         oneTensionLessTrips(due);
+        moreTensionTripsToo(due);
         theLastTickCounts(due);
         nothingChanges(due);
         beyondTheLastTick(due);
@@ -194,6 +195,20 @@ public final class EdgesAheadTest {
         due.is("tripsIn() with it", leg.tripsIn(), GrainLeg.NONE);
         due.performs(leg, "t39", 1);
         due.is("tripsIn() with one less", leg.tripsIn(), 3);
+    }
+
+    /** With a tension of 200 it does not slip, and six cells a tick rub it warm: it trips, too. */
+    private static void moreTensionTripsToo(Due due) {
+        due.sentence("Finds the least tension with which the leg would not trip: not where trips end");
+        GrainLeg leg = new GrainLeg();
+        due.performs(leg, "d6,f28,c19,t200,a4,o,g,w8", 8);
+        due.is("leastTension(19)", leg.leastTension(19), 18);
+        int[][] tensionTrips = {{17, 1}, {18, 0}, {100, 1}, {200, 1}};
+        for (int[] row : tensionTrips) {
+            leg.set(1, row[0]);
+            int ticks = leg.tripsIn();
+            due.is("trips with " + row[0], ticks > 0 && ticks <= 19 ? 1 : 0, row[1]);
+        }
     }
 
     private static void theLastTickCounts(Due due) {
