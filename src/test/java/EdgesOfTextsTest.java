@@ -270,6 +270,11 @@ public final class EdgesOfTextsTest {
         due.is("no stop", leg.stopped(0), GrainLeg.NONE);
         due.performs(leg, "g,g,o,o,d4", 5);
         due.is("what follows is done", leg.count(20), 4);
+        for (int commands = 1; commands <= 30; commands++) {
+            GrainLeg still = new GrainLeg();
+            due.performs(still, "x,".repeat(commands - 1) + "s", commands);
+            due.is("the call is an act all the same", still.count(15), 1);
+        }
     }
 
     private static void stoppedAtFirst(Due due) {
